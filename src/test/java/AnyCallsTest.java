@@ -10,7 +10,8 @@ public final class AnyCallsTest {
         "[C2^E]/-", "{c}", "|", "||", "|]", "|:", ":|", "::", "|1", ":|2", "[1", " ", "\n", ">", "<<", "(3", "(5:4:2",
         "(", ")", ".", "T", "!f!", "\"Am\"", "[K:Bb]", "[M:6/8]", "[L:1/16]", "[V:2]", "\nK:G\n", "\nV:1\n", "%", "\\",
         "\n\n", ":", "-", "0", "'", "\u00e9", "]", "\""};
-    private static final int[] EDGES = {0, 1, -1, -2, 2, 16, 17, 20, 299, 300, 400, Integer.MAX_VALUE, Integer.MIN_VALUE};
+    private static final int[] EDGES = {0, 1, -1, -2, 2, 16, 17, 20, 299, 300, 400, Integer.MAX_VALUE,
+        Integer.MIN_VALUE};
 
     public static void main(String[] args) {
         Random random = new Random(7);
@@ -107,7 +108,7 @@ public final class AnyCallsTest {
                     continue;
                 }
                 boolean within = x.thing(i, 10) > 0;
-                Check.due("start(" + i + ")", within ? x.start(i - x.thing(i, 10)) : x.start(i), within ? x.start(i) : clock);
+                Check.due("start(" + i + ")", x.start(i), within ? x.start(i - x.thing(i, 10)) : clock);
                 if (!within) {
                     clock += x.time(i);
                 }

@@ -23,6 +23,7 @@ public final class HeadsTest {
         AbcForms x = Check.read(1, "X: 9999\nT:a\nT:b\nT:c\nQ:999\nL: 1/32\nM:  12/8\nK: Ebmin\n"
                 + "CDE|[V:3]F[M:3/4][L:1/4][K:C]\nV:2\n");
         heads(x, 9999, 3, 12, 8, 32, 999, -6, 8, 3, 1);
+        Check.due("the least Q", Check.read(0, Check.tune("Q:1\n", "")).head(5), 1);
         int[] wrong = {-1, 10, Integer.MIN_VALUE, Integer.MAX_VALUE, AbcForms.NONE};
         for (int what : wrong) {
             Check.due("head(" + what + ")", x.head(what), AbcForms.BAD);
@@ -172,6 +173,14 @@ public final class HeadsTest {
         Check.musicFault("X:3", 1, 0);
         Check.musicFault("C\nc:|", 1, 2);
         Check.musicFault("w:la", 1, 0);
+        Check.fault(Check.tune("M:C\n", "Z::"), 1, Check.at("M:C\n"));
+        Check.musicFault("z:|", 1, 0);
+        Check.musicFault("a:|", 1, 0);
+        Check.musicFault("A:|", 1, 0);
+        Check.fault("X:1\nL:1/8\nT:a\nK:C\n", 1, 4);
+        Check.fault("X:1\nQ:8\nT:a\nK:C\n", 1, 4);
+        Check.fault("X:1\nT:a\nL:1/1\nT:b\nK:C\n", 1, 14);
+        Check.fault("X:1\nT:a\nQ:1\nT:b\nK:C\n", 1, 12);
         Check.musicFault("V 1", 1, 0);
         Check.due("a bar behind a blank and a letter", Check.fed(0, Check.tune("", " c:|")).read(), 2);
     }
@@ -203,8 +212,8 @@ public final class HeadsTest {
             Check.fault(Check.tune("L: " + units[i] + "\n", ""), 1, 11 + unitPlaces[i]);
             Check.musicFault("L:" + units[i] + "\n", 1, 2 + unitPlaces[i]);
         }
-        String[] keys = {"H", "c", "", "no", "nonem", "Cma", "Cmi", "Cdo", "Cx", "C min", "C##", "Cminx"};
-        int[] keyPlaces = {0, 0, 0, 0, 4, 2, 2, 1, 1, 1, 2, 4};
+        String[] keys = {"xone", "Cxaj", "H", "c", "", "no", "nonem", "Cma", "Cmi", "Cdo", "Cx", "C min", "C##", "Cminx"};
+        int[] keyPlaces = {0, 1, 0, 0, 0, 0, 4, 2, 2, 1, 1, 1, 2, 4};
         for (int i = 0; i < keys.length; i++) {
             Check.fault("X:1\nT:a\nK:" + keys[i], 1, 10 + keyPlaces[i]);
             Check.musicFault("K:" + keys[i], 1, 2 + keyPlaces[i]);

@@ -135,6 +135,8 @@ public final class MusicFaultsTest {
         Check.musicFault("(3:22CDE", 1, 4);
         Check.musicFault("(3:2:22CDE", 1, 6);
         Check.musicFault("(3:2:2:CDE", 1, 6);
+        Check.musicFault("(3:2::CDE", 1, 5);
+        Check.musicFault("((((C(0", 1, 6);
         Check.musicFault("(3C(3:0CDE", 5, 3);
         Check.musicFault("(3C | [V:2] D (2", 5, 14);
         Check.due("one behind another", Check.fed(0, Check.tune("", "(3CDE(2CD")).read(), 5);

@@ -29,6 +29,7 @@ public final class PlayedTest {
         Check.order("C :| D | E :|", 0, 0, 1, 2, 1, 2);
         Check.order("C :: D :|", 0, 0, 1, 1);
         Check.order("C || D :|", 0, 1, 0, 1);
+        Check.order("|: C :| D |: E | F :|", 0, 0, 1, 2, 3, 2, 3);
     }
 
     private static void endings() {
@@ -40,6 +41,8 @@ public final class PlayedTest {
         Check.order("|1 C :| D", 0, 1);
         Check.order("|2 C || D", 1);
         Check.order("|2 C | D", new int[0]);
+        Check.order("|2 C |1 D", 1);
+        Check.order("C |1 D :| E |: F :|", 0, 1, 0, 2, 3, 3);
         Check.order("C |1 D |2 E :| F", 0, 1, 3);
         Check.order("C |1 D :|2 E |: F :|", 0, 1, 0, 2, 3, 3);
     }

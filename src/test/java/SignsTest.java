@@ -27,6 +27,18 @@ public final class SignsTest {
         bothSigns("[K:F]BEADGCF[K:Bb]BEADGCF[K:Cb]BEADGCF", 0, -1, 0, 0, 0, 0, 0, 0, 0, -1, -1, 0, 0, 0, 0,
                 0, 0, -1, -1, -1, -1, -1, -1, -1);
         bothSigns("[K:none]FBfb'", 0, 0, 0, 0, 0);
+        String sharps = "FCGDAEB";
+        String flats = "BEADGCF";
+        String[] sharpKeys = {"C", "G", "D", "A", "E", "B", "F#", "C#"};
+        String[] flatKeys = {"C", "F", "Bb", "Eb", "Ab", "Db", "Gb", "Cb"};
+        for (int many = 0; many <= 7; many++) {
+            AbcForms sharp = Check.read(0, "X:1\nT:a\nK:" + sharpKeys[many] + "\n" + sharps);
+            AbcForms flat = Check.read(1, "X:1\nT:a\nK:" + flatKeys[many] + "\n" + flats);
+            for (int i = 0; i < 7; i++) {
+                Check.cells(sharp, 6, i, i < many ? 1 : 0);
+                Check.cells(flat, 6, i, i < many ? -1 : 0);
+            }
+        }
         AbcForms x = Check.read(0, "X:1\nT:a\nK:Eb\nB e =e A,");
         Check.cells(x, 3, 0, 70, 75, 76, 56);
     }
@@ -38,6 +50,8 @@ public final class SignsTest {
         signs(0, "c' _C, c' d", 0, -1, -1, 0);
         signs(1, "c, _C c, c d", 0, -1, -1, 0, 0);
         Check.cells(Check.read(0, Check.tune("", "^c C c")), 7, 0, 1, 0, 0);
+        bothSigns("^^B,,,,,, B,,,,,, ^C,,,,, C,,,,, _D,,,, D,,,,", 2, 2, 1, 1, -1, -1);
+        bothSigns("__a a _g g", -2, -2, -1, -1);
     }
 
     private static void bars() {
@@ -77,6 +91,8 @@ public final class SignsTest {
         bothSigns("^c- | [=cc]", 1, 0, 0, 1);
         bothSigns("^c- | {e} c", 1, 0, 0, 1);
         signs(0, "^c- | C c", 1, 0, 0, 0);
+        bothSigns("c ^d- | d", 0, 1, 0, 1);
+        bothSigns("[K:C#] z C,,,, | Z C,,,,", 0, 0, 1, 0, 0, 1);
         AbcForms x = Check.music("^c'- | c'");
         Check.cells(x, 7, 0, 1, 0, 0);
         Check.cells(x, 3, 0, 85, 0, 85);

@@ -154,6 +154,8 @@ public final class TapeTest {
 
     private static void bytes() {
         Check.fault("?\nX:1\n\t", 1, 6);
+        Check.fault("?\u0001", 1, 1);
+        Check.fault("?%\n?\u0001", 1, 4);
         Check.fault("X:0\nT:a\u007f", 1, 7);
         Check.fault("X:0\nT:\u00e4", 1, 6);
         Check.fault("X:1\nT:a\nK:C\nC\r\n", 1, 13);

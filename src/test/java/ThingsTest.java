@@ -88,6 +88,7 @@ public final class ThingsTest {
         AbcForms y = Check.music("(())C(((([ce]))))(d)");
         Check.cells(y, 13, 0, 2, 4, 0, 1);
         Check.cells(y, 14, 0, 0, 4, 0, 1);
+        Check.cells(Check.music("| () C"), 14, 0, 0, 0);
         AbcForms z = Check.music("(3(CDE)");
         Check.cells(z, 13, 0, 1, 0, 0);
         Check.cells(z, 14, 0, 0, 0, 1);

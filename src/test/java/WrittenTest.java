@@ -37,8 +37,8 @@ public final class WrittenTest {
     }
 
     private static void lengths() {
-        music("C1 C2 C64 C/ C/2 C// C/4 C/64 C3/2 C3/ C6/4 C2/2 C4/8 C64/64 C63/64 C/1",
-                "C", "C2", "C64", "C/", "C/", "C/4", "C/4", "C/64", "C3/", "C3/", "C3/", "C", "C/", "C",
+        music("C9 C10 C11 C1 C2 C64 C/ C/2 C// C/4 C/64 C3/2 C3/ C6/4 C2/2 C4/8 C64/64 C63/64 C/1",
+                "C9", "C10", "C11", "C", "C2", "C64", "C/", "C/", "C/4", "C/4", "C/64", "C3/", "C3/", "C3/", "C", "C/", "C",
                 "C63/64", "C");
     }
 
