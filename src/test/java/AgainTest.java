@@ -17,6 +17,8 @@ public final class AgainTest {
         HEADS + "C2|2222222222222222",
         HEADS + "D ^D- d'",
         HEADS + "C ^D-",
+        HEADS + "D-",
+        HEADS + "{^D} | D",
         HEADS + "D",
         HEADS + ".\"x\"!y!D | .~\"x\"",
         HEADS + ". \"a\" () ?",

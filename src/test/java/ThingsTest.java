@@ -8,6 +8,7 @@ public final class ThingsTest {
         ornaments();
         slurs();
         measuresAndVoices();
+        allVoices();
         places();
         wrongArguments();
         Check.finish();
@@ -100,6 +101,11 @@ public final class ThingsTest {
         Check.cells(x, 0, 0, 4, 5, 0, 6, 4, 4, 5, 4, 8, 0, 4, 3, 5, 0, 4, 4, 0, 4, 1);
         Check.cells(x, 2, 0, 0, 0, 0, 0, 0, 1, 1, 1, 1, 1, 1, 2, 4, 4, 4, 0, 0, 0, 5);
         Check.cells(x, 1, 0, 1, 1, 1, 1, 1, 1, 1, 1, 1, 1, 1, 1, 1, 1, 1, 2, 2, 2, 1);
+    }
+
+    private static void allVoices() {
+        AbcForms x = Check.read(0, Check.tune("M:2/4\n", "[V:3] C | [V:2] Z {c} [V:1] [K:G]\nV:3\nz"));
+        Check.cells(x, 1, 0, 3, 3, 2, 2, 1, 3);
     }
 
     private static void places() {
