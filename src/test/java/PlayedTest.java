@@ -83,6 +83,21 @@ public final class PlayedTest {
         Check.due("600", y.played(-1), 600);
         Check.due("the 599th", y.played(599), 299);
         Check.due("the 600th", y.played(600), AbcForms.BAD);
+        cutOff();
+    }
+
+    /** Each time round lets one more second ending go, so that 80 MEASURES would be 1,680 PLAYED. */
+    private static void cutOff() {
+        AbcForms x = Check.music("|2C".repeat(40) + "||" + "C|".repeat(39) + "C:|");
+        Check.due("MEASURES", x.measures(1), 80);
+        Check.due("at most", x.played(-1), 1000);
+        for (int i = 0; i < 1000; i++) {
+            int round = (i + 1) / 41;
+            int behind = (i + 1) % 41;
+            Check.due("played(" + i + ")", x.played(i), behind == 0 ? round - 1 : 39 + behind);
+        }
+        Check.due("the 1,000th", x.played(1000), AbcForms.BAD);
+        Check.order("|2 C || D | E :|", 1, 2, 0, 1, 2, 1, 2);
     }
 
     private static void wrongArguments() {
