@@ -41,6 +41,9 @@ public final class AgainTest {
         HEADS + "c [V:2] c [V:",
     };
 
+    /** What the latest read() answered. */
+    private static int latest;
+
     public static void main(String[] args) {
         for (int rule = 0; rule <= 1; rule++) {
             for (String behind : TEXTS) {
@@ -54,14 +57,19 @@ public final class AgainTest {
         Check.finish();
     }
 
-    /** Every answer to the last of the texts, which are read one behind the other. */
-    private static String answers(int rule, String... texts) {
+    private static AbcForms read(int rule, String... texts) {
         AbcForms x = new AbcForms(rule);
-        int things = 0;
         for (String text : texts) {
             Check.feed(x, text.getBytes(StandardCharsets.ISO_8859_1));
-            things = x.read();
+            latest = x.read();
         }
+        return x;
+    }
+
+    /** Every answer to the last of the texts, which are read one behind the other. */
+    private static String answers(int rule, String... texts) {
+        AbcForms x = read(rule, texts);
+        int things = latest;
         StringBuilder b = new StringBuilder();
         b.append(things).append(' ').append(x.place());
         for (int what = 0; what < 10; what++) {
@@ -71,6 +79,8 @@ public final class AgainTest {
             b.append(' ').append(x.title(i, -1)).append(' ').append(x.title(i, 0));
         }
         for (int i = 0; i <= things; i++) {
+            // An object is promised for 512 calls.
+            x = i % 10 == 0 ? read(rule, texts) : x;
             for (int what = 0; what < 17; what++) {
                 b.append(' ').append(x.thing(i, what));
             }
@@ -79,6 +89,7 @@ public final class AgainTest {
                 b.append(' ').append(x.written(i, k));
             }
         }
+        x = read(rule, texts);
         for (int voice = 1; voice <= 3; voice++) {
             b.append(' ').append(x.measures(voice));
             for (int m = 0; m < 6; m++) {

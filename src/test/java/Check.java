@@ -4,6 +4,8 @@ import java.nio.charset.StandardCharsets;
 final class Check {
     private static int asked;
     private static int wrong;
+    /** Told ahead of each answer that is not as due. */
+    static String context = "";
 
     private Check() {
     }
@@ -12,7 +14,8 @@ final class Check {
         asked++;
         if (got != want) {
             wrong++;
-            System.out.println(what + " answered " + got + ", due is " + want);
+            String where = context.isEmpty() ? "" : "[" + context + "] ";
+            System.out.println(where + what + " answered " + got + ", due is " + want);
         }
     }
 
@@ -118,7 +121,7 @@ final class Check {
         due("written(" + i + ", -2) of " + wanted, x.written(i, -2), AbcForms.BAD);
     }
 
-    private static String shown(String text) {
+    static String shown(String text) {
         String line = text.replace('\n', '$');
         return line.length() > 80 ? line.substring(0, 80) + ".." : line;
     }
