@@ -17,7 +17,7 @@ final class Edge {
 
     /** 400 THINGS, 300 MEASURES with repeats, all VOICES with signs and ties, and much that waits for a timed. */
     private static final String MANY = HEADS_OF_MANY + "|:[V:3][M:12/8][K:Cb]^^c_d=e-\nV:2\n[L:1/1]__C[K:none]^f-|\nV:1\n"
-            + "Z16|".repeat(17) + "Z16|2Z11:|1.~\"x\"!y!((((^C-))))" + "| ".repeat(350) + "\n[V:2].~\"x\"!y!\n\n%\n";
+            + "Z16|".repeat(17) + "Z16|2Z11:|1.~\"x\"!y!((((^C-)))):|2" + " |".repeat(349) + "\n[V:2].~\"x\"!y!(())\n\n%\n";
 
     /** Cut off within a timed behind a >, within a TUPLET and four slurs. */
     private static final String FAULTY = "X:2\nT:zz\nM:9/8\nL:1/32\nQ:7\nK:Bb\n[V:3]^c-|[V:2][M:2/4]_d-[V:1]|2C|1D:|"

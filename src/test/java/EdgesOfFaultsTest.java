@@ -58,6 +58,9 @@ public final class EdgesOfFaultsTest {
             Edge.refused(HEADS + music + " \u007f\u0001", 1, HEADS.length() + music.length() + 1);
         }
         Edge.refused("?\n\u0001", 1, 2);
+        Edge.refused("?\u0001", 1, 1);
+        Edge.refused("X:0\u0001", 1, 3);
+        Edge.refused("X:0%\u0001\n?\u0002", 1, 7);
         Edge.refused("X:1\nT:a\nK:G#\n\u001f", 1, 13);
         Edge.refused("\u0001\u0002", 1, 0);
         Edge.refused("X:1\nT:\u0080\nK:C\u00ff", 1, 6);
@@ -71,6 +74,7 @@ public final class EdgesOfFaultsTest {
         Edge.let(HEADS + "C\n%\u0001\n\n %\u00ff", 1);
         Edge.refused(HEADS + "C%\u0001\n\u0001D", 1, 16);
         Edge.refused(HEADS + "C\u0001%", 1, 13);
+        Edge.refused("X:1%\nT:a\u0001\nK:C\n", 1, 8);
         Edge.refused(HEADS + "?%\u0001", 1, 12);
         Edge.refused(HEADS + "C\\\u0001", 1, 14);
     }

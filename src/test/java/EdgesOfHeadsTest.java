@@ -311,6 +311,7 @@ public final class EdgesOfHeadsTest {
         Edge.sentence("Without M: none;");
         Edge.asked("X:1\nT:a\nK:C\nC", 1, x -> {
             Check.due("meter", x.head(2), 0);
+            Check.due("its lower one", x.head(3), 0);
             Check.due("always FULL", x.full(1, 0), 1);
         });
         Edge.refused("X:1\nT:a\nK:C\nZ", 1, 12);

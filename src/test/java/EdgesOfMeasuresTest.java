@@ -88,6 +88,7 @@ public final class EdgesOfMeasuresTest {
             judged(x, 1, 298, 1, 8 * EIGHTH);
             judged(x, 1, 299, 0, EIGHTH);
             judged(x, 1, 300, AbcForms.BAD, AbcForms.BAD);
+            Check.due("all are PLAYED", x.played(-1), 300);
             Check.due("the last one is PLAYED", x.played(299), 299);
             Check.cells(x, 2, 38, 299, 299);
         });

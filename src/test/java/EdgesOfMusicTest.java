@@ -230,6 +230,7 @@ public final class EdgesOfMusicTest {
         Edge.letMusic("", "(C(D(E(F)(G))))", 5);
         Edge.letMusic("", "((((C(2DE))))", 3);
         Edge.refusedMusic("", "((((C(1DE))))", 1, 6);
+        Edge.refusedMusic("", "((((C(0DE))))", 1, 6);
         Edge.refusedMusic("", "[V:2]((((C[V:1](D)))))", 5, 15);
     }
 

@@ -275,5 +275,9 @@ public final class EdgesOfPlayedTest {
             Check.due("299 twice and one", x.played(-1), 599);
             Check.due("the last one", x.played(598), 299);
         });
+        Edge.asked(0, Check.tune("M:4/4\n", "|:" + "Z15|".repeat(19) + "Z15:|"), 41, x -> {
+            Check.due("300 twice", x.played(-1), 600);
+            Check.due("the last one", x.played(599), 299);
+        });
     }
 }

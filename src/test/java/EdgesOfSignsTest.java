@@ -118,6 +118,9 @@ public final class EdgesOfSignsTest {
         Edge.sentence("right before (the latest timed or Z of the VOICE, over a bar too) it has its SIGN");
         signs("^c-|c", 1, 0, 1);
         signs("^c|c", 1, 0, 0);
+        signs("d^c-|c", 0, 1, 0, 1);
+        signs("^dzc-|d", 1, 0, 0, 0, 0);
+        signs("^C,,,,zC,,,,", 1, 0, 1);
         signs("^c-|dc", 1, 0, 0, 0);
         signs("^c-|zc", 1, 0, 0, 0);
         signs("^c-|xc", 1, 0, 0, 0);
@@ -150,6 +153,7 @@ public final class EdgesOfSignsTest {
         signs("[^c_c]-|c", 1, -1, 0, 1);
         signs("[e_c^c]-|[ce]", 0, -1, 1, 0, -1, 0);
         signs("[^ce]-|[cc]", 1, 0, 0, 1, 1);
+        signs("[ge][^ce]-|[ce]", 0, 0, 1, 0, 0, 1, 0);
         signs("[^ce]2-|c", 1, 0, 0, 1);
         signs("^c-|[=cc]", 1, 0, 0, 1);
         signs("^c-|[ec]", 1, 0, 0, 1);

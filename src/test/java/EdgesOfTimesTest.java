@@ -301,6 +301,8 @@ public final class EdgesOfTimesTest {
         Edge.refusedMusic("", "(3::0CCC", 1, 4);
         Edge.refusedMusic("", "(3:1:10CCC", 1, 6);
         Edge.refusedMusic("", "(3:1:1:CCC", 1, 6);
+        Edge.times("", "(3:1::|CCC", 0, EIGHTH / 3, EIGHTH / 3, EIGHTH / 3);
+        Edge.times("", "(3:1:1:|C", 0, EIGHTH / 3);
         long third = 2 * EIGHTH / 3;
         Edge.times("", "(3::CCCC", third, third, third, EIGHTH);
         Edge.times("", "(3:2:CCCC", third, third, third, EIGHTH);
